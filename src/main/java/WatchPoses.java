@@ -20,6 +20,8 @@ public final class WatchPoses {
     private static final int RATE_SHIFT = 10000;
     private static final int WORN_SHIFT = 100000;
     private static final int ERROR_SHIFT = 1000000;
+    // No rate, hour or error comes near it: where the search for a least one begins.
+    private static final int BEYOND_ALL = 2000000000;
 
     private final State now = new State();
     private final State snapshot = new State();
@@ -198,7 +200,9 @@ public final class WatchPoses {
     }
 
     public int reading(int reading, int what) throws IllegalArgumentException {
-        demandRange(reading, 0, Integer.MAX_VALUE);
+        if (reading < 0) {
+            throw new IllegalArgumentException("no such place on the paper");
+        }
         demandRange(what, 0, Paper.NUMBERS - 1);
         return readingNumber(reading, what);
     }
@@ -240,7 +244,7 @@ public final class WatchPoses {
 
     public int nightPose() {
         int best = 0;
-        int least = Integer.MAX_VALUE;
+        int least = BEYOND_ALL;
         for (int p = 0; p < POSES; p++) {
             trial.copyFrom(now.watch);
             trial.lies = p;
@@ -657,9 +661,9 @@ public final class WatchPoses {
         }
 
         int whyNoDayRate() {
-            int oldest = Integer.MAX_VALUE;
-            int least = Integer.MAX_VALUE;
-            int greatest = Integer.MIN_VALUE;
+            int oldest = BEYOND_ALL;
+            int least = BEYOND_ALL;
+            int greatest = -BEYOND_ALL;
             for (int p = 0; p < POSES; p++) {
                 int place = paper.latestIn(p);
                 if (place == NONE) {
@@ -692,8 +696,8 @@ public final class WatchPoses {
             int seenPoses = 0;
             int seen = 0;
             int sum = 0;
-            int least = Integer.MAX_VALUE;
-            int greatest = Integer.MIN_VALUE;
+            int least = BEYOND_ALL;
+            int greatest = -BEYOND_ALL;
             for (int place = paper.length - 1; place >= 0 && seen < POSES; place--) {
                 int bit = 1 << paper.number(place, Paper.POSE);
                 if ((seenPoses & bit) != 0) {

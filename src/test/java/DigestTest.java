@@ -45,7 +45,8 @@ public final class DigestTest {
         DUE.is("digest " + when + " again", x.digest(), hash);
     }
 
-    private static void ofManyStates() {
+    // A new object for every few looks at all: an object serves for 512 calls.
+    private static void ofReadings() {
         WatchPoses x = new WatchPoses();
         same(x, "of a new object", "");
         x.pass(3);
@@ -55,6 +56,11 @@ public final class DigestTest {
         x.read(5);
         x.read(2);
         same(x, "with two readings", "");
+    }
+
+    private static void ofBufferAndStop() {
+        WatchPoses x = new WatchPoses();
+        x.wind(48);
         Due.type(x, "p1;r0;~");
         same(x, "with a buffer", "p1;r0;~");
         x.clearBuffer();
@@ -80,16 +86,19 @@ public final class DigestTest {
 
     /** Shares of one hour in very many have the least exponents. */
     private static void ofSmallShares() {
-        WatchPoses x = new WatchPoses();
-        x.wind(1);
-        for (int i = 0; i < 100; i++) {
-            x.pass(99);
+        for (int waits = 1; waits <= 300; waits += 23) {
+            WatchPoses x = new WatchPoses();
+            x.wind(1);
+            for (int i = 0; i < waits; i++) {
+                x.pass(99);
+            }
             same(x, "of one hour in " + x.count(0), "");
         }
     }
 
     public static void main(String[] args) {
-        ofManyStates();
+        ofReadings();
+        ofBufferAndStop();
         ofManyShares();
         ofSmallShares();
         DUE.end("DigestTest");

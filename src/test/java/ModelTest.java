@@ -3,8 +3,9 @@ import java.util.function.LongSupplier;
 // Promises 1 to 29 together: runs of calls, chosen by a fixed row of numbers, on the class
 // and on PlainWatch; each answer, each exception and the digest behind each call must agree.
 public final class ModelTest {
-    private static final int RUNS = 1500;
-    private static final int CALLS_IN_A_RUN = 255; // with a digest behind each: 510 calls
+    private static final int RUNS = 1000;
+    // With a digest behind each, and with what a step may go on beyond it, still under 512 calls.
+    private static final int CALLS_IN_A_RUN = 250;
     private static final int EDGES_EVERY = 8;
 
     private static final Due DUE = new Due();

@@ -106,6 +106,8 @@ public final class WatchTest {
 
     // Promise 7
     private static void clean() {
+        DUE.is("beat error with dirt 9", Due.dirty(9).pose(0, 3), 10);
+        DUE.is("beat error with dirt 10", Due.dirty(10).pose(0, 3), 11);
         WatchPoses x = Due.dirty(11);
         DUE.is("swing with dirt 11", x.pose(0, 1), 309);
         DUE.is("beat error with dirt 11", x.pose(0, 3), 11);
@@ -179,6 +181,17 @@ public final class WatchTest {
         DUE.is("error of the hour that does not", x.count(8), 1000025);
     }
 
+    private static void knocksAboveASwingOf300() {
+        WatchPoses x = Due.dirty(1);
+        x.pass(6);
+        DUE.is("swing of 301", x.pose(0, 1), 301);
+        DUE.is("knocks at 301", x.pose(0, 2), 10601);
+        WatchPoses y = Due.dirty(2);
+        y.pass(6);
+        DUE.is("swing of 300", y.pose(0, 1), 300);
+        DUE.is("does not knock at 300", y.pose(0, 2), 10001);
+    }
+
     private static void dirtStopsIt() {
         WatchPoses x = new WatchPoses();
         x.lay(0);
@@ -234,6 +247,7 @@ public final class WatchTest {
         lay();
         pass();
         errorByTheRateAheadOfTheHour();
+        knocksAboveASwingOf300();
         dirtStopsIt();
         goesAtSwingOf120();
         DUE.end("WatchTest");

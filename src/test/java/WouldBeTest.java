@@ -153,7 +153,9 @@ public final class WouldBeTest {
     private static void going() {
         WatchPoses x = new WatchPoses();
         DUE.isShare("without any hours", x.going(), 1.0);
-        x.pass(4);
+        x.pass(1);
+        DUE.isShare("not in the first hour", x.going(), 0.0);
+        x.pass(3);
         DUE.isShare("never", x.going(), 0.0);
         x.wind(5);
         x.pass(2);
