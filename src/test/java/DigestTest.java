@@ -96,7 +96,47 @@ public final class DigestTest {
         }
     }
 
+    /** The list of the document for a new object, number by number. */
+    private static void ofANewObjectByHand() {
+        long[][] due = {{0, 0, 100, 110, 0, 0, 0, 0, 1000000, 0, 0, 0, -1, -1, 6, 0, 60, 40, 24, 60, 0},
+            {102, 176, 10003, 10, 1, -1, -1, 0, 0}, {98, 176, 9996, 10, 1, -1, -1, 0, 0},
+            {108, 156, 10016, 12, 1, -1, -1, 0, 0}, {92, 156, 9983, 12, 1, -1, -1, 0, 0},
+            {104, 156, 10008, 12, 1, -1, -1, 0, 0}, {96, 156, 9991, 12, 1, -1, -1, 0, 0},
+            {-1, -1, -1}, {100000, 0, 100000, 0}, {100, 0, 0x3FF0000000000000L, 0}};
+        hash = 3803;
+        for (long[] row : due) {
+            for (long value : row) {
+                add(value);
+            }
+        }
+        DUE.is("digest of a new object by hand", new WatchPoses().digest(), hash);
+    }
+
+    private static void ofFullPaperAndBuffer() {
+        WatchPoses x = Due.wound(48);
+        for (int i = 0; i < 40; i++) {
+            x.read(i % 6);
+        }
+        String buffer = "d;".repeat(29) + "!~";
+        Due.type(x, buffer);
+        same(x, "of a full paper and a full buffer", buffer);
+    }
+
+    /** Each pose has another weight here, so each that is worn in ifWorn counts. */
+    private static void ofGreatWeights() {
+        for (int turn = 0; turn < 6; turn++) {
+            WatchPoses x = Due.wound(30);
+            for (int p = 0; p < 6; p++) {
+                x.weigh(p, -60 + 24 * ((p + turn) % 6));
+            }
+            same(x, "of great weights, turn " + turn, "");
+        }
+    }
+
     public static void main(String[] args) {
+        ofANewObjectByHand();
+        ofFullPaperAndBuffer();
+        ofGreatWeights();
         ofReadings();
         ofBufferAndStop();
         ofManyShares();

@@ -1,3 +1,5 @@
+import java.util.function.IntConsumer;
+
 // What the tests share: answers that are due, and calls that must be refused.
 final class Due {
     private int asked = 0;
@@ -72,15 +74,40 @@ final class Due {
         }
     }
 
-    /** Winds and lets pass until the dirt is this high; the watch lies in pose 0 then and is wound. */
+    /** Calls that must be refused each time with the same exception. */
+    void allRefused(WatchPoses x, String call, Class<? extends RuntimeException> want, IntConsumer run, int... values) {
+        for (int value : values) {
+            refused(x, call + " with " + value, want, () -> run.accept(value));
+        }
+    }
+
+    static WatchPoses wound(int hours) {
+        WatchPoses x = new WatchPoses();
+        x.wind(hours);
+        return x;
+    }
+
+    /** Of this dirt, 0 to 100: it lies in pose 0, is wound, and went just 24 times so many hours; 2 * dirt + 1 calls. */
     static WatchPoses dirty(int dirt) {
         WatchPoses x = new WatchPoses();
-        for (int round = 0; round < 200 && x.count(5) < dirt; round++) {
+        for (int day = 0; day < dirt; day++) {
             x.wind(48);
             x.pass(24);
         }
         x.wind(48);
         return x;
+    }
+
+    static void readAll(WatchPoses x) {
+        for (int p = 0; p < 6; p++) {
+            x.read(p);
+        }
+    }
+
+    static void weighAll(WatchPoses x, int... weights) {
+        for (int p = 0; p < 6; p++) {
+            x.weigh(p, weights[p]);
+        }
     }
 
     private void say(String text) {

@@ -2,12 +2,6 @@
 public final class ReadingTest {
     private static final Due DUE = new Due();
 
-    private static void readAll(WatchPoses x) {
-        for (int p = 0; p < 6; p++) {
-            x.read(p);
-        }
-    }
-
     // Promise 10
     private static void read() {
         WatchPoses x = new WatchPoses();
@@ -73,7 +67,7 @@ public final class ReadingTest {
         DUE.is("renew() of an empty paper", x.renew(), 0);
         DUE.undoable(x, "renew() of an empty paper", x::renew);
         x.wind(20);
-        readAll(x);
+        Due.readAll(x);
         DUE.undoable(x, "renew()", x::renew);
         DUE.is("renew()", x.renew(), 6);
         DUE.is("readings on the paper", x.count(10), 0);
@@ -206,14 +200,14 @@ public final class ReadingTest {
         WatchPoses x = new WatchPoses();
         x.wind(20);
         x.adjust(50, 0);
-        readAll(x);
+        Due.readAll(x);
         x.adjust(0, 0);
         x.read(3);
         // 52, 47, 61, 55, 44 and now -12
         dayRate(x, "pose 3 without the regulator", -1, 8);
         x.set(3, 900);
         dayRate(x, "the wider spread", 10041, 0);
-        readAll(x);
+        Due.readAll(x);
         dayRate(x, "all poses anew", 9999, 0);
     }
 

@@ -2,12 +2,6 @@
 public final class WouldBeTest {
     private static final Due DUE = new Due();
 
-    private static WatchPoses wound(int hours) {
-        WatchPoses x = new WatchPoses();
-        x.wind(hours);
-        return x;
-    }
-
     private static void changesNothing(WatchPoses x, String call, Runnable look) {
         long before = x.digest();
         look.run();
@@ -16,7 +10,7 @@ public final class WouldBeTest {
 
     // Promise 24
     private static void ifWorn() {
-        WatchPoses x = wound(20);
+        WatchPoses x = Due.wound(20);
         changesNothing(x, "ifWorn", () -> x.ifWorn(3, 4, 5, 0));
         DUE.is("hours in which it would go", x.ifWorn(0, 2, 4, 1), 20);
         // Pose 0: rate 2 or 3, 0 each hour; pose 3: -8 * (360 - s) / 100 is below 0 and above -24: -1 each hour.
@@ -135,13 +129,13 @@ public final class WouldBeTest {
         // All poses bring about -3 each hour.
         x.weigh(4, 40);
         DUE.is("the one that is nearest", x.nightPose(), 4);
-        WatchPoses y = wound(48);
+        WatchPoses y = Due.wound(48);
         y.pass(7);
         // 175 ahead: poses 1, 3 and 5 bring -8, the others 0.
         DUE.is("nearer to 0 from above", y.nightPose(), 1);
         y.weigh(5, -60);
         DUE.is("the greatest loss", y.nightPose(), 5);
-        WatchPoses z = wound(48);
+        WatchPoses z = Due.wound(48);
         z.adjust(-99, 10);
         z.pass(48);
         z.wind(48);
@@ -165,7 +159,7 @@ public final class WouldBeTest {
         changesNothing(x, "going", x::going);
         x.undo();
         DUE.isShare("2 of 6 again", x.going(), 2.0 / 6.0);
-        WatchPoses y = wound(9);
+        WatchPoses y = Due.wound(9);
         y.pass(9);
         DUE.isShare("always", y.going(), 1.0);
     }
